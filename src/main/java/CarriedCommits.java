@@ -296,11 +296,11 @@ public final class CarriedCommits {
         }
         current.remember(commitCount, merger);
         current.begin(branch, from, target);
-        return stopOrFinish(carry(current, true));
+        return stopOrFinish(carry(current));
     }
 
     public int go() {
-        return isUnderWay() ? stopOrFinish(carry(current, false)) : STATE;
+        return isUnderWay() ? stopOrFinish(carry(current)) : STATE;
     }
 
     public int skip() {
@@ -309,7 +309,7 @@ public final class CarriedCommits {
         }
         current.figures[LEFT_OUT]++;
         current.at--;
-        return stopOrFinish(carry(current, true));
+        return stopOrFinish(carry(current));
     }
 
     public int abort() {
@@ -410,7 +410,7 @@ public final class CarriedCommits {
             return FULL;
         }
         rehearsal.begin(branch, from, target);
-        int outcome = carry(rehearsal, true);
+        int outcome = carry(rehearsal);
         switch (what) {
             case 0:
                 return outcome;
@@ -703,21 +703,21 @@ public final class CarriedCommits {
     }
 
     /**
-     * Runs a replay until it is over (0) or stops (1 or 2). A replay that goes on with the commit
-     * at which it stopped has looked before whether that commit's change is there already.
+     * Runs a replay until it is over (0) or stops (1 or 2). When it goes on with the commit at which
+     * it stopped, that commit's change cannot be there already: no change on either path has become
+     * another one since, so that looking once more comes to the merge, as go() has to.
      */
-    private int carry(Replay r, boolean looksFirst) {
-        boolean looks = looksFirst;
+    private int carry(Replay r) {
         for (; r.at >= 0; r.at--) {
-            if (looks && isThereAlready(r, r.commitAtWork())) {
+            Plain c = r.commitAtWork();
+            if (isThereAlready(r, c)) {
                 r.figures[LEFT_OUT]++;
             } else {
-                int stop = place(r, r.commitAtWork());
+                int stop = place(r, c);
                 if (stop != 0) {
                     return stop;
                 }
             }
-            looks = true;
         }
         return 0;
     }

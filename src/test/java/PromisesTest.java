@@ -116,6 +116,10 @@ public final class PromisesTest {
         Script.run("4 piece, the longest", "slot 0 := 3, 1, 2; commit(0, 0, 0) = 1; slot 0 := 1, 2, 3; "
                 + "commit(0, 0, 0) = 2; ofCommit(2, 3) = 2; piece(2, 0, 10) = 3; piece(2, 0, 1) = 0; "
                 + "piece(2, 1, 0) = 0; piece(2, 1, 30) = 3");
+        Script.run("4 piece, lines that occur again", "slot 0 := 1, 1; commit(0, 0, 0) = 1; commit(0, 0, 0) = 2; "
+                + "ofCommit(2, 3) = 0; slot 0 := 1, 1, 1; commit(0, 0, 0) = 3; ofCommit(3, 3) = 1; "
+                + "piece(3, 0, 0) = 0; piece(3, 0, 1) = 1; slot 0 := 1, 2, 1, 1; commit(0, 0, 0) = 4; "
+                + "ofCommit(4, 3) = 1; piece(4, 0, 30) = 2");
         Script.run("4 piece, whole rows", "blank(0, 0, 16); write(0, 15, 1); commit(0, 0, 0) = 1; blank(0, 0, 0); "
                 + "commit(0, 0, 0) = 2; piece(1, 0, 0) = 0; piece(1, 0, 1) = 16; piece(1, 0, 45) = 1; "
                 + "piece(2, 0, 0) = 16; piece(2, 0, 1) = 0; piece(2, 0, 25) = 1");
@@ -234,6 +238,13 @@ public final class PromisesTest {
                 + "slot 0 := 50,51,52,53,54,55,56,57,58,59,60,61,1,2,3,4; commit(0, 0, 0) = 2; "
                 + "slot 0 := 1,2,3,4,70,71,72,73,74,75,76,77,78,79,80,81; commit(1, 0, 0) = 3; "
                 + "merge(1, 2, 3, 0) = 0; merge(1, 2, 3, 2) = 28; merge(1, 2, 3, 25) = 4; merge(1, 2, 3, 10) = 50");
+        // Eight conflicts of one shape, each of which becomes six lines, around seven stable lines.
+        Script.run("13 merge, many resolutions", "slot 0 := 1,2,3,4,5,6,7; commit(0, 0, 0) = 1; point(1, 1); "
+                + "slot 0 := 11,1,12,2,13,3,14,4,15,5,16,6,17,7,18; commit(0, 0, 0) = 2; "
+                + "slot 0 := 21,1,22,2,23,3,24,4,25,5,26,6,27,7,28; commit(1, 0, 0) = 3; replay(1, 2) = 1; "
+                + "status(7) = 8; slot 1 := 11, 11, 11, 21, 21, 90; settle(0, 1) = 1; merge(1, 2, 3, 0) = 8; "
+                + "merge(1, 2, 3, 1) = 0; merge(1, 2, 3, 2) = 55; merge(1, 2, 3, 16) = 1; merge(1, 2, 3, 17) = 12; "
+                + "merge(1, 2, 3, 20) = 22; merge(1, 2, 3, 22) = 90; go() = 2; status(5) = 0");
         // A line that only one side keeps is not stable: 1 is kept by theirs alone.
         Script.run("13 merge, stable in both", "slot 0 := 1, 2; commit(0, 0, 0) = 1; point(1, 1); slot 0 := 2; "
                 + "commit(0, 0, 0) = 2; slot 0 := 3, 1, 2; commit(1, 0, 0) = 3; merge(1, 2, 3, 0) = 1; "
@@ -299,6 +310,10 @@ public final class PromisesTest {
         // The stop at more than 16 lines: 10 lines on each side of the common ones.
         Script.run("16 replay, too long", longMerge() + "replay(1, 2) = 2; status(0) = 2; status(1) = 3; "
                 + "status(7) = 0; conflict(0, 0) = -1; go() = 2; many(0) = 4; skip() = 0; status(3) = 1; tip(1) = 2");
+        Script.run("16 replay, 16 lines are not too long", "slot 0 := 1, 2; commit(0, 0, 0) = 1; point(1, 1); "
+                + "slot 0 := 31,32,33,34,35,36,37,1,2; commit(0, 0, 0) = 2; slot 0 := 1,2,41,42,43,44,45,46,47; "
+                + "commit(1, 0, 0) = 3; foretell(1, 2, 0) = 0; foretell(1, 2, 5) = 16; foretell(1, 2, 25) = 47; "
+                + "replay(1, 2) = 0; ofCommit(4, 2) = 16; ofCommit(4, 25) = 47");
     }
 
     private static String longMerge() {
@@ -349,6 +364,12 @@ public final class PromisesTest {
         Script.run("17 go, stops again", TWO_SIDES + "slot 0 := 1, 9, 7, 3; commit(1, 0, 0) = 4; replay(1, 2) = 1; "
                 + "slot 1 := 8; settle(0, 1) = 1; status(6) = 1; go() = 1; status(1) = 4; status(6) = 0; "
                 + "status(3) = 1; status(5) = 1; conflict(0, 0) = 1; conflict(0, 1) = 1; conflict(0, 2) = 2");
+        // After the settled commit the next one is looked at from step 1 on: its change is there already.
+        Script.run("17 go, the next one from the beginning", "slot 0 := 1, 2, 3; commit(0, 0, 0) = 1; point(1, 1); "
+                + "slot 0 := 1, 8, 3; commit(0, 0, 0) = 2; slot 0 := 6, 1, 8, 3; commit(0, 0, 0) = 3; "
+                + "slot 0 := 1, 9, 3; commit(1, 0, 0) = 4; slot 0 := 1, 9, 3, 6; commit(1, 0, 0) = 5; "
+                + "replay(1, 3) = 1; slot 1 := 9; settle(0, 1) = 1; go() = 0; status(3) = 1; status(2) = 1; "
+                + "tip(1) = 6; ofCommit(6, 2) = 4; ofCommit(6, 12) = 9");
     }
 
     private static void skip() {
@@ -378,6 +399,10 @@ public final class PromisesTest {
         Script.run("19 abort, forgotten ones come back", TWO_SIDES + "slot 1 := 4; replay(1, 2) = 1; "
                 + "settle(0, 1) = 1; go() = 0; point(2, 1) = 0; slot 2 := 5; commit(2, 0, 2) = 5; replay(2, 2) = 1; "
                 + "forget(0) = 0; abort() = 0; many(1) = 1; resolution(0, 70) = 104; tip(2) = 5");
+        Script.run("19 abort, new ones go and forgotten ones come back", TWO_SIDES + "slot 1 := 4; "
+                + "replay(1, 2) = 1; settle(0, 1) = 1; go() = 0; point(2, 1) = 0; slot 2 := 5, 6; "
+                + "commit(2, 0, 2) = 5; replay(2, 2) = 1; forget(0) = 0; settle(0, 2) = 1; resolution(0, 1) = 2; "
+                + "abort() = 0; many(1) = 1; resolution(0, 1) = 1; resolution(0, 0) = 6; resolution(0, 70) = 104");
         // The trace stays: what the replay made has left 1, 2 in it.
         Script.run("19 abort, trace", TWO_SIDES + "slot 0 := 1, 9, 3; point(2, 1); slot 2 := 1, 2, 3, 6; "
                 + "commit(2, 1, 2) = 4; slot 2 := 1, 7, 3, 6; commit(2, 0, 2) = 5; replay(2, 2) = 1; abort() = 1; "
@@ -434,6 +459,14 @@ public final class PromisesTest {
                 + "replay(1, 2) = 1; status(7) = 2; conflict(0, 30) = 10; conflict(1, 30) = 11; conflict(1, 31) = 12; "
                 + "conflict(1, 50) = 21; conflict(1, 10) = 3; conflict(2, 0) = -1; slot 1 := 5; settle(0, 1) = 1; "
                 + "status(7) = 1; conflict(0, 30) = 11; conflict(1, 30) = -1");
+        // Six numbers each, but 1, 0, 1, 1, 1, 2 in front and 0, 1, 0, 2, 1, 2 behind.
+        Script.run("21 conflict, shapes of one length", "slot 0 := 1, 2; commit(0, 0, 0) = 1; point(1, 1); "
+                + "slot 0 := 10, 2, 11; commit(0, 0, 0) = 2; slot 0 := 20, 2, 21, 22; commit(1, 0, 0) = 3; "
+                + "replay(1, 2) = 1; status(7) = 2; conflict(0, 3) = 6; conflict(1, 3) = 6; slot 1 := 5; "
+                + "settle(1, 1) = 1; status(7) = 1; conflict(0, 10) = 1; settle(0, 1) = 2; status(7) = 0");
+        // A merge that is not the replay's leaves an open conflict behind; it is none of a replay.
+        Script.run("21 conflict, of a replay alone", TWO_SIDES + "merge(1, 2, 3, 1) = 1; status(7) = 0; "
+                + "merge(1, 2, 3, 1) = 1; conflict(0, 0) = -1; merge(1, 2, 3, 1) = 1; settle(0, 0) = -1; many(1) = 0");
     }
 
     private static void settle() {
@@ -482,6 +515,10 @@ public final class PromisesTest {
                 + "foretell(2, 2, 0) = 0; foretell(2, 2, 1) = 1; foretell(2, 2, 3) = -9; foretell(2, 2, 4) = 0; "
                 + "foretell(2, 2, 5) = 4; foretell(2, 2, 13) = 4; foretell(0, 2, 1) = 0; foretell(0, 2, 5) = 3; "
                 + "foretell(3, 2, 5) = 3; foretell(2, 4, 11) = 2; many(0) = 5");
+        Script.run("23 foretell, the change is there already", "slot 0 := 1, 2; commit(0, 0, 0) = 1; point(1, 1); "
+                + "slot 0 := 9, 1, 2; commit(0, 0, 0) = 2; slot 0 := 1, 9, 2; commit(1, 0, 0) = 3; "
+                + "foretell(1, 2, 0) = 0; foretell(1, 2, 1) = 0; foretell(1, 2, 2) = 1; foretell(1, 2, 5) = 3; "
+                + "foretell(1, 2, 10) = 9");
         Script.run("23 foretell, too long", longMerge() + "foretell(1, 2, 0) = 2; foretell(1, 2, 3) = 3; "
                 + "foretell(1, 2, 4) = 0; foretell(1, 2, 5) = 10; foretell(1, 2, 10) = 31");
         Script.run("23 foretell, keeps the latest figures", "slot 0 := 1; commit(0, 0, 0) = 1; point(1, 0); "
@@ -539,6 +576,9 @@ public final class PromisesTest {
                 + "as(3, 3) = 1; as(3, 4) = 1; as(3, 0) = -12; blank(0, 1, 1); as(0, 0) = -12; as(0, 1) = 1; "
                 + "as(0, 2) = -12; as(4, 0) = -11; fault() = 1; as(4, 4) = -11; as(4, 5) = -2; fault() = 0; "
                 + "as(0, -1) = -2; as(5, 9) = -1; as(-1, 0) = -1");
+        Script.run("29 as, after another one", "hold(0, 0); blank(0, 0, 1); as(0, 2) = -12; as(0, 0) = 1; "
+                + "hold(0, 0); as(0, 0) = -12; as(0, 2) = 1; trail(0, 0); as(0, 2) = -12; as(0, 1) = 1; "
+                + "hold(0, 0); show(0, 0); as(0, 2) = -12; as(0, 0) = 1");
     }
 
     private static void lose() {
