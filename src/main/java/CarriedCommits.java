@@ -640,13 +640,19 @@ public final class CarriedCommits {
     private int countReachedCommits() {
         int count = 0;
         for (int c = 0; c < commitCount; c++) {
-            boolean reached = false;
-            for (int b = 0; b < MOST_BRANCHES && !reached; b++) {
-                reached = commits[c].isOnPathOf(tips[b]);
-            }
-            count += reached ? 1 : 0;
+            Plain it = commitAt(c);
+            count += it != null && isReached(it) ? 1 : 0;
         }
         return count;
+    }
+
+    private boolean isReached(Plain it) {
+        for (int b = 0; b < MOST_BRANCHES; b++) {
+            if (it.isOnPathOf(tips[b])) {
+                return true;
+            }
+        }
+        return false;
     }
 
     private int countFilledSlots() {
@@ -686,8 +692,11 @@ public final class CarriedCommits {
 
     private void dropCommitsFrom(int first) {
         for (int c = first; c < commitCount; c++) {
-            commits[c].gone = true;
-            commits[c] = null;
+            Plain it = commitAt(c);
+            if (it != null) {
+                it.gone = true;
+                commits[c] = null;
+            }
         }
         commitCount = first;
     }
@@ -975,7 +984,7 @@ public final class CarriedCommits {
         }
     }
 
-    /** A stretch of a row. */
+    /** A stretch of a row; setTo() alone sets it, so that it always lies within the row. */
     private static final class Part {
         int[] row = NO_LINES;
         int from;
@@ -1114,7 +1123,7 @@ public final class CarriedCommits {
             numbers[size] = part.size;
             size++;
             for (int i = 0; i < part.size; i++) {
-                int line = part.lineAt(i);
+                int line = part.row[part.from + i];
                 int name = 0;
                 while (name < names && lines[name] != line) {
                     name++;
@@ -1272,8 +1281,9 @@ public final class CarriedCommits {
 
         private Resolution findResolution() {
             for (int k = 0; k < resolutionCount; k++) {
-                if (shape.equalsNumbers(resolutions[k].shape)) {
-                    return resolutions[k];
+                Resolution it = resolutionAt(k);
+                if (it != null && shape.equalsNumbers(it.shape)) {
+                    return it;
                 }
             }
             return null;

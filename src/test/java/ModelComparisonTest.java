@@ -2,7 +2,6 @@ import java.lang.reflect.Method;
 import java.util.ArrayList;
 import java.util.Comparator;
 import java.util.HashMap;
-import java.util.LinkedHashMap;
 import java.util.List;
 import java.util.Map;
 import java.util.Random;
@@ -181,7 +180,8 @@ public final class ModelComparisonTest {
             lookAtConflict(k);
             putRow(4, row);
             say("settle", k, 4);
-            say("resolution", random.nextInt(8), random.nextBoolean() ? 10 + random.nextInt(51) : 70 + random.nextInt(6));
+            say("resolution", random.nextInt(8), 10 + random.nextInt(51));
+            say("resolution", random.nextInt(8), 70 + random.nextInt(6));
         } else if (dice < 8) {
             say("go");
         } else if (dice < 10) {

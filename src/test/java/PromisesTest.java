@@ -613,7 +613,8 @@ public final class PromisesTest {
                 + "number(0, 3) = 3; copy(0, 4, 1, 2, 0) = 0; fault() = 0; copy(0, 5, 1, 0, 0) = -13; fault() = 3; "
                 + "copy(0, 0, 1, 3, 0) = -13; copy(0, -1, 1, 0, 1) = -13; copy(0, 0, 1, -1, 1) = -13; "
                 + "copy(0, 0, 1, 0, -1) = -13; copy(0, 0, 1, 0, 3) = -13; copy(1, 0, 0, 3, 2) = -13; "
-                + "copy(0, 3, 0, 0, 2) = -13; copy(0, 1, 0, 0, " + MAX + ") = -13; copy(0, " + MAX + ", 0, 0, 1) = -13; "
+                + "copy(0, 3, 0, 0, 2) = -13; copy(0, 1, 0, 0, " + MAX + ") = -13; "
+                + "copy(0, " + MAX + ", 0, 0, 1) = -13; "
                 + "copy(0, 0, 0, " + MAX + ", " + MAX + ") = -13; copy(0, " + MAX + ", 0, " + MAX + ", " + MAX
                 + ") = -13; copy(0, 0, 0, 1, " + MIN + ") = -13; number(0, 3) = 3; fault() = 0");
         Script.run("33 copy, wrong", "slot 0 := 1, 2; blank(1, 1, 2); hold(2, 0); copy(5, 0, 0, 0, 1) = -1; "
