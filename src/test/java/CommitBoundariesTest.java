@@ -57,6 +57,14 @@ public final class CommitBoundariesTest {
                 settle(0, 0) = 1; resolution(1, 0) = -1; ofCommit(MAX, 0) = -1; tip(MAX) = -1; lose(MAX) = -1
                 piece(1, MAX, 0) = -1; conflict(MAX, 0) = -1; resolution(MAX, 0) = -1
                 """);
+        Script.run("CONVENTIONS: UNKNOWN, behind the last one of 24 commits", Rows.empties(0, 23) + """
+                ofCommit(23, 0) = 1; ofCommit(24, 0) = -1; piece(24, 0, 0) = -1; mark(24) = -1; alike(24, 0) = -1
+                alike(0, 24) = -1; fork(24, 0) = -1; ahead(0, 24) = -1; swaps(24) = -1; point(0, 24) = -1
+                merge(24, 0, 0, 0) = -1; replay(0, 24) = -1; foretell(0, 24, 0) = -1; show(0, 24) = -1
+                trail(0, 24) = -1; hold(0, 24) = -1; tell(24) = -1
+                """);
+        Script.run("CONVENTIONS: UNKNOWN, behind the last one of 8 resolutions", Rows.eightResolutions()
+                + "resolution(7, 1) = 1; resolution(8, 1) = -1; forget(8) = -1; many(1) = 8");
         Script.run("CONVENTIONS: -11, fault 1 (null)", "as(0, 0) = -11; fault() = 1");
         Script.run("CONVENTIONS: -12, fault 2 (cast)", "hold(0, 0) = 1; as(0, 0) = -12; fault() = 2");
         Script.run("CONVENTIONS: -13, fault 3 (index)", "blank(0, 0, 1) = 1; write(0, 1, 0) = -13; fault() = 3");
@@ -126,6 +134,18 @@ public final class CommitBoundariesTest {
                 ofCommit(2, 3) = 1; piece(2, 0, 0) = 0; piece(2, 0, 1) = 1; blank(0, 0, 0) = 1
                 commit(0, 0, 0) = 3; ofCommit(3, 3) = 1; piece(3, 0, 0) = 1; piece(3, 0, 1) = 0
                 """);
+        Script.run("COMMITS: from each pair to the next one i and j increase, lines that occur again", """
+                slot 0 := 5, 5; commit(0, 0, 0) = 1; commit(0, 0, 0) = 2; ofCommit(2, 3) = 0
+                slot 0 := 5, 5, 5; commit(0, 0, 0) = 3; ofCommit(3, 3) = 1; piece(3, 0, 0) = 0; piece(3, 0, 1) = 1
+                slot 0 := 5; commit(0, 0, 0) = 4; ofCommit(4, 3) = 1; piece(4, 0, 0) = 2; piece(4, 0, 1) = 0
+                """);
+        // What a matching of long rows leaves behind must not count in one of short rows.
+        Script.run("COMMITS: a longest common subsequence, short rows after rows of 16 lines", Rows.count(0, 1, 16)
+                + "commit(0, 0, 0) = 1; commit(0, 0, 0) = 2; ofCommit(2, 3) = 0; slot 0 := 1, 2; commit(1, 0, 0) = 3; "
+                + "slot 0 := 1, 3; commit(1, 0, 0) = 4; ofCommit(2, 3) = 0; ofCommit(4, 3) = 1; piece(4, 0, 10) = 2; "
+                + "piece(4, 0, 30) = 3; piece(4, 0, 0) = 1; ofCommit(2, 3) = 0; ofCommit(3, 3) = 1; "
+                + "piece(3, 0, 1) = 2; merge(2, 2, 2, 2) = 16; merge(3, 4, 3, 2) = 2; merge(3, 4, 3, 11) = 3; "
+                + "merge(3, 4, 3, 0) = 0");
         // (1, 0), (2, 1) is longer than (0, 2), though the latter begins with the smaller i.
         Script.run("COMMITS: with as many pairs as possible", """
                 slot 0 := 3, 1, 2; commit(0, 0, 0) = 1; slot 0 := 1, 2, 3; commit(0, 0, 0) = 2; ofCommit(2, 3) = 2
@@ -166,12 +186,14 @@ public final class CommitBoundariesTest {
                 piece(2, 0, 0) = 1; piece(2, 0, 1) = 0; slot 0 := 1, 4, 3; commit(0, 0, 0) = 3; ofCommit(3, 3) = 1
                 piece(3, 0, 0) = 0; piece(3, 0, 1) = 1; commit(0, 0, 0) = 4; ofCommit(4, 3) = 0
                 """);
-        // Eight lines that stay, and a new one before each of them: the most pieces of 16 lines.
-        Script.run("COMMITS: many pieces", Rows.count(0, 1, 8) + "commit(0, 0, 0) = 1; "
-                + "slot 0 := 11,1,12,2,13,3,14,4,15,5,16,6,17,7,18,8; commit(0, 0, 0) = 2; ofCommit(2, 3) = 8; "
-                + "piece(2, 0, 30) = 11; piece(2, 7, 30) = 18; piece(2, 7, 31) = -9; piece(2, 8, 0) = -1; "
-                + Rows.count(0, 1, 8) + "commit(0, 0, 0) = 3; ofCommit(3, 3) = 8; piece(3, 7, 10) = 18; "
-                + "piece(3, 7, 1) = 0");
+        // Ten lines that stay, and a line taken out or put in before, between and after them: no change of
+        // rows of 16 lines has more pieces.
+        Script.run("COMMITS: 11 pieces", "slot 0 := 40,1,2,42,3,4,44,5,6,46,7,8,48,9,10,50; commit(0, 0, 0) = 1; "
+                + "slot 0 := 1,61,2,3,63,4,5,65,6,7,67,8,9,69,10,70; commit(0, 0, 0) = 2; ofCommit(2, 3) = 11; "
+                + "piece(2, 0, 10) = 40; piece(2, 0, 1) = 0; piece(2, 1, 0) = 0; piece(2, 1, 30) = 61; "
+                + "piece(2, 2, 10) = 42; piece(2, 9, 30) = 69; piece(2, 9, 31) = -9; piece(2, 10, 0) = 1; "
+                + "piece(2, 10, 10) = 50; piece(2, 10, 30) = 70; piece(2, 11, 0) = -1; alike(2, 2) = 1; "
+                + "alike(1, 2) = 0");
         Script.run("COMMITS: The change of commit 0 has no pieces", "ofCommit(0, 3) = 0; piece(0, 0, 0) = -1; "
                 + "mark(0) = 0; blank(0, 0, 0); commit(0, 0, 0) = 1; alike(0, 1) = 1");
         Script.run("COMMITS: equal if they have the same number of pieces", """
@@ -350,6 +372,13 @@ public final class CommitBoundariesTest {
                 + "alike(1, 0) = 0");
         Script.run("6: whole rows of 16 lines", Rows.count(0, 0, 15) + "commit(0, 0, 0) = 1; commit(1, 1, 0) = 2; "
                 + "write(0, 15, 16); commit(2, 0, 0) = 3; alike(1, 2) = 1; alike(1, 3) = 0");
+        // Changes with two pieces are looked at before: their second pieces are none of those behind.
+        Script.run("6: changes with one piece after changes with two", """
+                slot 0 := 1, 2; commit(0, 0, 0) = 1; slot 0 := 5, 1, 6, 2; commit(0, 0, 0) = 2; point(0, 1)
+                slot 0 := 5, 1, 7, 2; commit(0, 0, 0) = 3; point(0, 1); slot 0 := 8, 1, 2; commit(0, 0, 0) = 4
+                point(0, 1); slot 0 := 1, 8, 2; commit(0, 0, 0) = 5; alike(2, 3) = 0; alike(4, 5) = 1
+                alike(3, 2) = 0; alike(5, 4) = 1
+                """);
         Script.run("6: UNKNOWN if there is no such commit", "alike(-1, 0) = -1; alike(0, -1) = -1; alike(1, 0) = -1; "
                 + "alike(0, 1) = -1; alike(MIN, 0) = -1; alike(0, MAX) = -1; alike(1, 1) = -1");
     }
@@ -379,6 +408,19 @@ public final class CommitBoundariesTest {
                 + "swaps(3) = 1");
         Script.run("9: not with a conflict in the first merge", "slot 0 := 1; commit(0, 0, 0) = 1; slot 0 := 2; "
                 + "commit(0, 0, 0) = 2; slot 0 := 3; commit(0, 0, 0) = 3; swaps(3) = 0");
+        // The lines around the conflict alone, [0, 1, 0], would give the row of c in the second merge.
+        Script.run("9: not with a conflict in the first merge alone", "slot 0 := 0, 1, 0, 1; commit(0, 0, 0) = 1; "
+                + "slot 0 := 1, 0, 0, 1; commit(0, 0, 0) = 2; slot 0 := 1, 0, 0; commit(0, 0, 0) = 3; "
+                + "merge(2, 1, 3, 0) = 1; swaps(3) = 0");
+        // Settled by 0, x would be [1, 0, 1, 0], and the second merge has no conflict and gives the row of c.
+        Script.run("9: not with a conflict in the first merge, nor with a resolution for it", """
+                slot 0 := 1, 0, 1; commit(0, 0, 0) = 1; slot 0 := 0, 1, 1; commit(0, 0, 0) = 2
+                slot 0 := 0, 1, 1, 0; commit(0, 0, 0) = 3; swaps(3) = 0; point(1, 2); slot 0 := 1, 0, 1
+                commit(1, 0, 0) = 4; point(2, 3); replay(2, 4) = 1; slot 1 := 0; settle(0, 1) = 1
+                merge(2, 1, 3, 0) = 1; merge(2, 1, 3, 2) = 4; merge(2, 1, 3, 10) = 1; merge(2, 1, 3, 13) = 0
+                swaps(3) = 0; abort(); point(1, 1); slot 0 := 1, 0, 1, 0; commit(1, 0, 0) = 5
+                merge(1, 5, 2, 0) = 0; merge(1, 5, 2, 2) = 4; merge(1, 5, 2, 10) = 0; merge(1, 5, 2, 13) = 0
+                """);
         Script.run("9: commits whose changes are none", "slot 0 := 1; commit(0, 0, 0) = 1; commit(0, 0, 0) = 2; "
                 + "commit(0, 0, 0) = 3; swaps(2) = 1; swaps(3) = 1");
         String sixteen = Rows.count(0, 1, 16) + "commit(0, 0, 0) = 1; " + Rows.count(0, 2, 16)

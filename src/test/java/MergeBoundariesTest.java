@@ -192,6 +192,15 @@ public final class MergeBoundariesTest {
                 + "merge(1, 2, 3, 1) = 8; replay(1, 2) = 1; slot 1 := 11, 21, 11, 21, 11, 90; settle(0, 1) = 1; "
                 + "merge(1, 2, 3, 0) = 8; merge(1, 2, 3, 1) = 0; merge(1, 2, 3, 2) = 56; merge(1, 2, 3, 15) = 90; "
                 + "merge(1, 2, 3, 16) = 1; merge(1, 2, 3, 18) = 22; merge(1, 2, 3, 24) = 13; merge(1, 2, 3, 25) = 23");
+        // Ten conflicts around nine stable lines, as many as three rows of 16 lines can have: four where both
+        // sides put in a line, three where theirs changes a line that ours takes out, three the other way round.
+        Script.run("13: 0: ten conflicts, and a result of 69 lines", three("1,2,3,4,44,5,45,6,46,7,47,8,48,9,49",
+                "50,1,51,2,52,3,53,4,5,6,7,57,8,58,9,59", "60,1,61,2,62,3,63,4,64,5,65,6,66,7,8,9")
+                + "merge(1, 2, 3, 0) = 10; merge(1, 2, 3, 1) = 10; replay(1, 2) = 1; status(7) = 10; "
+                + "conflict(9, 10) = 49; conflict(9, 30) = 59; conflict(9, 2) = 0; conflict(9, 4) = 1; "
+                + "conflict(4, 4) = 0; conflict(10, 0) = -1; slot 1 := 50, 60, 90, 91, 92, 93; settle(0, 1) = 1; "
+                + "merge(1, 2, 3, 1) = 6; settle(5, 1) = 2; merge(1, 2, 3, 0) = 10; merge(1, 2, 3, 1) = 0; "
+                + "merge(1, 2, 3, 2) = 69; merge(1, 2, 3, 16) = 1; merge(1, 2, 3, 17) = 51; go() = 2; status(5) = 0");
         Script.run("13: 10 + i: line i of the result (i is 0 to 15)", Rows.count(0, 50, 65)
                 + "commit(0, 0, 0) = 1; merge(0, 0, 1, 10) = 50; merge(0, 0, 1, 25) = 65");
         Script.run("13: for 2 and 10 + i, NONE if a conflict is open", three("1, 2", "1, 8", "1, 9")
@@ -211,7 +220,8 @@ public final class MergeBoundariesTest {
                 + "merge(MIN, 0, 0, 0) = -1; merge(0, MAX, 0, 0) = -1; merge(0, 0, MIN, 0) = -1; "
                 + "merge(1, 0, 0, 3) = -1; merge(0, 1, 0, -1) = -1; merge(0, 0, 1, 26) = -1");
         Script.run("13: OUTSIDE if what is none of these", "merge(0, 0, 0, -1) = -2; merge(0, 0, 0, 3) = -2; "
-                + "merge(0, 0, 0, 9) = -2; merge(0, 0, 0, 26) = -2; merge(0, 0, 0, MIN) = -2; merge(0, 0, 0, MAX) = -2");
+                + "merge(0, 0, 0, 9) = -2; merge(0, 0, 0, 26) = -2; merge(0, 0, 0, MIN) = -2; "
+                + "merge(0, 0, 0, MAX) = -2");
     }
 
     private static void resolution() {

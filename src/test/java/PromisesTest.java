@@ -7,10 +7,6 @@ public final class PromisesTest {
     private static final int MAX = Integer.MAX_VALUE;
     private static final int MIN = Integer.MIN_VALUE;
 
-    /** 1 = [1, 2, 3]; branch 0: 2 = [1, 8, 3]; branch 1: 3 = [1, 9, 3]. Slot 0 holds bytes. */
-    private static final String TWO_SIDES = "slot 0 := 1, 2, 3; commit(0, 0, 0) = 1; point(1, 1) = 0; "
-            + "write(0, 1, 8) = 1; commit(0, 0, 0) = 2; write(0, 1, 9) = 1; commit(1, 0, 0) = 3; ";
-
     private PromisesTest() {
     }
 
@@ -73,7 +69,7 @@ public final class PromisesTest {
         Script.run("2 commit, full", "blank(0, 0, 0); blank(1, 0, 17); " + "commit(0, 0, 0); ".repeat(22)
                 + "commit(0, 0, 0) = 23; many(0) = 24; commit(0, 0, 0) = -4; commit(0, 0, 1) = -2; "
                 + "commit(0, 0, 2) = -11; commit(0, 3, 0) = -2; tip(0) = 23; ofCommit(23, 4) = 24");
-        Script.run("2 commit, in a replay", TWO_SIDES + "replay(1, 2) = 1; commit(0, 0, 0) = -3; "
+        Script.run("2 commit, in a replay", Rows.TWO_SIDES + "replay(1, 2) = 1; commit(0, 0, 0) = -3; "
                 + "commit(0, 3, 0) = -2; commit(0, 0, 4) = -3; fault() = 0; commit(0, 0, 5) = -1");
     }
 
@@ -88,7 +84,7 @@ public final class PromisesTest {
                 + "ofCommit(1, " + MIN + ") = -2; ofCommit(1, " + MAX + ") = -2; ofCommit(" + MAX + ", 0) = -1");
         Script.run("3 ofCommit, the last line", "blank(0, 0, 16); write(0, 15, 42); commit(0, 0, 0) = 1; "
                 + "ofCommit(1, 25) = 42; ofCommit(1, 26) = -2");
-        Script.run("3 ofCommit, origin", TWO_SIDES + "slot 0 := 1, 2, 3, 4; point(2, 1); commit(2, 1, 0) = 4; "
+        Script.run("3 ofCommit, origin", Rows.TWO_SIDES + "slot 0 := 1, 2, 3, 4; point(2, 1); commit(2, 1, 0) = 4; "
                 + "replay(2, 2) = 0; ofCommit(5, 5) = 4; ofCommit(5, 0) = 1; ofCommit(5, 1) = 2; "
                 + "ofCommit(4, 5) = -9");
     }
@@ -193,12 +189,12 @@ public final class PromisesTest {
         Script.run("10 tip, 11 point", "blank(0, 0, 0); commit(0, 0, 0) = 1; commit(0, 0, 0) = 2; tip(0) = 2; "
                 + "point(3, 2) = 0; tip(3) = 2; point(3, 1) = 2; tip(3) = 1; tip(0) = 2; tip(4) = -1; tip(-1) = -1; "
                 + "point(4, 0) = -1; point(-1, 0) = -1; point(0, 3) = -1; point(0, -1) = -1; tip(0) = 2");
-        Script.run("11 point, in a replay", TWO_SIDES + "replay(1, 2) = 1; point(2, 1) = -3; point(4, 1) = -1; "
+        Script.run("11 point, in a replay", Rows.TWO_SIDES + "replay(1, 2) = 1; point(2, 1) = -3; point(4, 1) = -1; "
                 + "point(2, 4) = -1; tip(2) = 0; tip(1) = 3; abort() = 0; point(2, 1) = 0; tip(2) = 1");
     }
 
     private static void anew() {
-        Script.run("12 anew", TWO_SIDES + "slot 1 := 7; blank(2, 1, 3); hold(3, 0); hold(4, 3); replay(1, 2) = 1; "
+        Script.run("12 anew", Rows.TWO_SIDES + "slot 1 := 7; blank(2, 1, 3); hold(3, 0); hold(4, 3); replay(1, 2) = 1; "
                 + "anew() = -3; settle(0, 1) = 1; go() = 0; status(2) = 1; status(5) = 1; many(0) = 5; anew() = 5; "
                 + "many(0) = 1; many(1) = 0; many(2) = 1; many(3) = 5; tip(0) = 0; tip(1) = 0; tip(2) = 0; "
                 + "ofCommit(0, 1) = -9; ofCommit(0, 2) = 0; ofCommit(1, 0) = -1; status(0) = 0; status(1) = -9; "
@@ -206,16 +202,7 @@ public final class PromisesTest {
                 + "held(4) = -9; as(4, 2) = 1; commit(0, 0, 1) = 1; held(3) = -9; hold(3, 0) = 1; held(3) = 0; "
                 + "resolution(0, 0) = -1; anew() = 2; anew() = 1; held(3) = -9");
         // 0, then 1, 2, 7 twice.
-        Script.run("12 anew, trace", "anew() = 1; trace() = " + trail(1, 2, 7, 1, 2, 7));
-    }
-
-    /** What the trace is after these numbers have been left. */
-    private static int trail(int... numbers) {
-        int trace = 0;
-        for (int number : numbers) {
-            trace = 31 * trace + number;
-        }
-        return trace;
+        Script.run("12 anew, trace", "anew() = 1; trace() = " + Rows.trace(1, 2, 7, 1, 2, 7));
     }
 
     private static void merge() {
@@ -227,7 +214,7 @@ public final class PromisesTest {
                 + "merge(1, 2, 3, " + MIN + ") = -2; merge(4, 2, 3, 0) = -1; merge(1, 4, 3, 0) = -1; "
                 + "merge(1, 2, 4, 0) = -1; merge(-1, 2, 3, 3) = -1; merge(1, 3, 3, 0) = 0; merge(1, 3, 3, 2) = 3; "
                 + "merge(1, 1, 3, 12) = 4; merge(1, 3, 1, 12) = 4; merge(0, 1, 1, 2) = 3");
-        Script.run("13 merge, conflicts", TWO_SIDES + "merge(1, 2, 3, 0) = 1; merge(1, 2, 3, 1) = 1; "
+        Script.run("13 merge, conflicts", Rows.TWO_SIDES + "merge(1, 2, 3, 0) = 1; merge(1, 2, 3, 1) = 1; "
                 + "merge(1, 2, 3, 2) = -9; merge(1, 2, 3, 10) = -9; merge(1, 2, 3, 26) = -2; trace(); "
                 + "replay(1, 2) = 1; slot 1 := 8, 9; settle(0, 1) = 1; merge(1, 2, 3, 0) = 1; merge(1, 2, 3, 1) = 0; "
                 + "merge(1, 2, 3, 2) = 4; merge(1, 2, 3, 11) = 8; merge(1, 2, 3, 12) = 9; "
@@ -252,7 +239,8 @@ public final class PromisesTest {
     }
 
     private static void resolution() {
-        Script.run("14 resolution", TWO_SIDES + "resolution(0, 0) = -1; replay(1, 2) = 1; slot 1 := 9, 2, 8, 77, 0; "
+        Script.run("14 resolution", Rows.TWO_SIDES + "resolution(0, 0) = -1; replay(1, 2) = 1; "
+                + "slot 1 := 9, 2, 8, 77, 0; "
                 + "settle(0, 1) = 1; resolution(0, 0) = 6; resolution(0, 1) = 5; resolution(0, 10) = 1; "
                 + "resolution(0, 11) = 0; resolution(0, 12) = 1; resolution(0, 13) = 1; resolution(0, 14) = 1; "
                 + "resolution(0, 15) = 2; resolution(0, 16) = -9; resolution(0, 60) = -9; resolution(0, 61) = -2; "
@@ -262,20 +250,12 @@ public final class PromisesTest {
                 + "resolution(0, " + MIN + ") = -2; resolution(1, 0) = -1; resolution(1, 99) = -1; "
                 + "resolution(-1, 0) = -1");
         // 3 + 48 numbers: three rows of 16 lines without a common one.
-        Script.run("14 resolution, the longest shape", sixteen(0, 1) + "commit(0, 0, 0) = 1; point(1, 1); "
-                + sixteen(0, 20) + "commit(0, 0, 0) = 2; " + sixteen(0, 40) + "commit(1, 0, 0) = 3; replay(1, 2) = 1; "
+        Script.run("14 resolution, the longest shape", Rows.count(0, 1, 16) + "commit(0, 0, 0) = 1; point(1, 1); "
+                + Rows.count(0, 20, 35) + "commit(0, 0, 0) = 2; "
+                + "" + Rows.count(0, 40, 55) + "commit(1, 0, 0) = 3; replay(1, 2) = 1; "
                 + "conflict(0, 3) = 51; conflict(0, 120) = 47; conflict(0, 104) = 16; slot 1 := 55, 55, 55, 55, 55, 1; "
                 + "settle(0, 1) = 1; resolution(0, 0) = 51; resolution(0, 60) = 47; resolution(0, 70) = 47; "
                 + "resolution(0, 75) = 0; go() = 0; ofCommit(4, 2) = 6; ofCommit(4, 10) = 55");
-    }
-
-    /** Sixteen lines that count up from a first one. */
-    private static String sixteen(int slot, int first) {
-        StringBuilder text = new StringBuilder("slot " + slot + " := " + first);
-        for (int i = 1; i < 16; i++) {
-            text.append(", ").append(first + i);
-        }
-        return text + "; ";
     }
 
     private static void forget() {
@@ -300,7 +280,7 @@ public final class PromisesTest {
                 + "commit(0, 0, 0) = 2; replay(1, 2) = 0; tip(1) = 2; many(0) = 3; replay(1, 0) = 0; tip(1) = 4; "
                 + "ofCommit(3, 5) = 1; ofCommit(4, 5) = 2; ofCommit(4, 1) = 3; ofCommit(3, 1) = 0; "
                 + "replay(1, 4) = 0; tip(1) = 4; many(0) = 5");
-        Script.run("16 replay, wrong", TWO_SIDES + "replay(4, 0) = -1; replay(-1, 0) = -1; replay(0, 4) = -1; "
+        Script.run("16 replay, wrong", Rows.TWO_SIDES + "replay(4, 0) = -1; replay(-1, 0) = -1; replay(0, 4) = -1; "
                 + "replay(0, -1) = -1; replay(1, 2) = 1; replay(1, 2) = -3; replay(4, 2) = -1; replay(1, 4) = -1");
         Script.run("16 replay, full", "blank(0, 0, 0); " + "commit(0, 1, 0); ".repeat(11) + "commit(1, 1, 0) = 12; "
                 + "replay(0, 12) = 0; many(0) = 24; replay(0, 0) = -4; replay(1, 0) = -4; replay(0, 23) = 0; "
@@ -356,12 +336,13 @@ public final class PromisesTest {
     }
 
     private static void go() {
-        Script.run("17 go", TWO_SIDES + "go() = -3; slot 0 := 1, 9, 4; commit(1, 0, 0) = 4; replay(1, 2) = 1; "
+        Script.run("17 go", Rows.TWO_SIDES + "go() = -3; slot 0 := 1, 9, 4; commit(1, 0, 0) = 4; replay(1, 2) = 1; "
                 + "go() = 1; status(1) = 3; slot 1 := 8, 9; settle(0, 1) = 1; tip(1) = 4; status(0) = 1; go() = 0; "
                 + "go() = -3; tip(1) = 6; ofCommit(5, 2) = 4; ofCommit(5, 11) = 8; ofCommit(5, 12) = 9; "
                 + "ofCommit(6, 13) = 4; status(2) = 2; status(5) = 1");
         // The second commit conflicts as well, in another shape.
-        Script.run("17 go, stops again", TWO_SIDES + "slot 0 := 1, 9, 7, 3; commit(1, 0, 0) = 4; replay(1, 2) = 1; "
+        Script.run("17 go, stops again", Rows.TWO_SIDES + "slot 0 := 1, 9, 7, 3; commit(1, 0, 0) = 4; "
+                + "replay(1, 2) = 1; "
                 + "slot 1 := 8; settle(0, 1) = 1; status(6) = 1; go() = 1; status(1) = 4; status(6) = 0; "
                 + "status(3) = 1; status(5) = 1; conflict(0, 0) = 1; conflict(0, 1) = 1; conflict(0, 2) = 2");
         // After the settled commit the next one is looked at from step 1 on: its change is there already.
@@ -373,10 +354,11 @@ public final class PromisesTest {
     }
 
     private static void skip() {
-        Script.run("18 skip", TWO_SIDES + "skip() = -3; slot 0 := 1, 9, 3, 4; commit(1, 0, 0) = 4; replay(1, 2) = 1; "
+        Script.run("18 skip", Rows.TWO_SIDES + "skip() = -3; slot 0 := 1, 9, 3, 4; commit(1, 0, 0) = 4; "
+                + "replay(1, 2) = 1; "
                 + "skip() = 0; skip() = -3; status(2) = 1; status(3) = 1; tip(1) = 5; ofCommit(5, 2) = 4; "
                 + "ofCommit(5, 11) = 8; ofCommit(5, 13) = 4; ofCommit(5, 5) = 4; ofCommit(5, 1) = 2");
-        Script.run("18 skip, stops again", TWO_SIDES + "slot 0 := 1, 7, 3; commit(1, 0, 0) = 4; replay(1, 2) = 1; "
+        Script.run("18 skip, stops again", Rows.TWO_SIDES + "slot 0 := 1, 7, 3; commit(1, 0, 0) = 4; replay(1, 2) = 1; "
                 + "skip() = 1; status(1) = 4; status(3) = 1; status(6) = 0; skip() = 0; status(3) = 2; tip(1) = 2; "
                 + "many(0) = 5");
         // After a skip the next commit is looked at from step 1 on: its change is there already.
@@ -387,7 +369,7 @@ public final class PromisesTest {
     }
 
     private static void abort() {
-        Script.run("19 abort", TWO_SIDES + "slot 1 := 4; point(2, 1); slot 2 := 1, 2, 3, 6; commit(2, 0, 2) = 4; "
+        Script.run("19 abort", Rows.TWO_SIDES + "slot 1 := 4; point(2, 1); slot 2 := 1, 2, 3, 6; commit(2, 0, 2) = 4; "
                 + "slot 2 := 1, 7, 3, 6; commit(2, 0, 2) = 5; abort() = -3; "
                 // An earlier replay leaves figures and a resolution.
                 + "replay(1, 2) = 1; settle(0, 1) = 1; go() = 0; tip(1) = 6; status(2) = 1; status(5) = 1; "
@@ -396,21 +378,21 @@ public final class PromisesTest {
                 + "many(0) = 7; many(1) = 0; status(0) = 0; status(1) = -9; status(2) = 1; status(3) = 0; "
                 + "status(5) = 1; status(8) = -9; tip(2) = 5; tip(1) = 6; held(3) = -9; as(3, 2) = 1; held(4) = 6; "
                 + "ofCommit(7, 0) = -1; point(2, 0) = 5; commit(2, 0, 2) = 7; held(3) = -9");
-        Script.run("19 abort, forgotten ones come back", TWO_SIDES + "slot 1 := 4; replay(1, 2) = 1; "
+        Script.run("19 abort, forgotten ones come back", Rows.TWO_SIDES + "slot 1 := 4; replay(1, 2) = 1; "
                 + "settle(0, 1) = 1; go() = 0; point(2, 1) = 0; slot 2 := 5; commit(2, 0, 2) = 5; replay(2, 2) = 1; "
                 + "forget(0) = 0; abort() = 0; many(1) = 1; resolution(0, 70) = 104; tip(2) = 5");
-        Script.run("19 abort, new ones go and forgotten ones come back", TWO_SIDES + "slot 1 := 4; "
+        Script.run("19 abort, new ones go and forgotten ones come back", Rows.TWO_SIDES + "slot 1 := 4; "
                 + "replay(1, 2) = 1; settle(0, 1) = 1; go() = 0; point(2, 1) = 0; slot 2 := 5, 6; "
                 + "commit(2, 0, 2) = 5; replay(2, 2) = 1; forget(0) = 0; settle(0, 2) = 1; resolution(0, 1) = 2; "
                 + "abort() = 0; many(1) = 1; resolution(0, 1) = 1; resolution(0, 0) = 6; resolution(0, 70) = 104");
         // The trace stays: what the replay made has left 1, 2 in it.
-        Script.run("19 abort, trace", TWO_SIDES + "slot 0 := 1, 9, 3; point(2, 1); slot 2 := 1, 2, 3, 6; "
+        Script.run("19 abort, trace", Rows.TWO_SIDES + "slot 0 := 1, 9, 3; point(2, 1); slot 2 := 1, 2, 3, 6; "
                 + "commit(2, 1, 2) = 4; slot 2 := 1, 7, 3, 6; commit(2, 0, 2) = 5; replay(2, 2) = 1; abort() = 1; "
-                + "trace() = " + trail(1, 2, 7, 1, 2, 7, 1, 2, 7, 1, 2, 7, 1, 2, 7, 3, 4, 1, 2, 7, 1, 2, 3, 4));
+                + "trace() = " + Rows.trace(1, 2, 7, 1, 2, 7, 1, 2, 7, 1, 2, 7, 1, 2, 7, 3, 4, 1, 2, 7, 1, 2, 3, 4));
     }
 
     private static void status() {
-        Script.run("20 status", TWO_SIDES + "slot 1 := 1, 9, 3, 4; commit(1, 2, 1) = 4; slot 1 := 1, 9, 3, 5; "
+        Script.run("20 status", Rows.TWO_SIDES + "slot 1 := 1, 9, 3, 4; commit(1, 2, 1) = 4; slot 1 := 1, 9, 3, 5; "
                 + "commit(1, 2, 1) = 5; replay(1, 2) = 1; status(0) = 1; status(1) = 3; status(2) = 0; status(3) = 0; "
                 + "status(4) = 0; status(5) = 0; status(6) = 2; status(7) = 1; status(8) = 2; status(9) = -2; "
                 + "status(-1) = -2; slot 1 := 9; settle(0, 1) = 1; status(0) = 1; status(7) = 0; status(5) = 0; "
@@ -430,7 +412,7 @@ public final class PromisesTest {
     }
 
     private static void conflict() {
-        Script.run("21 conflict", "conflict(0, 0) = -1; " + TWO_SIDES + "conflict(0, 0) = -1; replay(1, 2) = 1; "
+        Script.run("21 conflict", "conflict(0, 0) = -1; " + Rows.TWO_SIDES + "conflict(0, 0) = -1; replay(1, 2) = 1; "
                 + "conflict(0, 0) = 1; conflict(0, 1) = 1; conflict(0, 2) = 1; conflict(0, 3) = 6; conflict(0, 4) = 0; "
                 + "conflict(0, 5) = -2; conflict(0, 9) = -2; conflict(0, -1) = -2; conflict(0, 10) = 2; "
                 + "conflict(0, 11) = -9; conflict(0, 25) = -9; conflict(0, 26) = -2; conflict(0, 29) = -2; "
@@ -465,20 +447,20 @@ public final class PromisesTest {
                 + "replay(1, 2) = 1; status(7) = 2; conflict(0, 3) = 6; conflict(1, 3) = 6; slot 1 := 5; "
                 + "settle(1, 1) = 1; status(7) = 1; conflict(0, 10) = 1; settle(0, 1) = 2; status(7) = 0");
         // A merge that is not the replay's leaves an open conflict behind; it is none of a replay.
-        Script.run("21 conflict, of a replay alone", TWO_SIDES + "merge(1, 2, 3, 1) = 1; status(7) = 0; "
+        Script.run("21 conflict, of a replay alone", Rows.TWO_SIDES + "merge(1, 2, 3, 1) = 1; status(7) = 0; "
                 + "merge(1, 2, 3, 1) = 1; conflict(0, 0) = -1; merge(1, 2, 3, 1) = 1; settle(0, 0) = -1; many(1) = 0");
     }
 
     private static void settle() {
-        Script.run("22 settle", TWO_SIDES + "slot 1 := 9, 8, 9, 50, 2, 99; settle(0, 1) = -1; replay(1, 2) = 1; "
+        Script.run("22 settle", Rows.TWO_SIDES + "slot 1 := 9, 8, 9, 50, 2, 99; settle(0, 1) = -1; replay(1, 2) = 1; "
                 + "settle(0, 1) = 1; status(0) = 1; many(0) = 4; resolution(0, 1) = 6; resolution(0, 70) = 2; "
                 + "resolution(0, 71) = 1; resolution(0, 72) = 2; resolution(0, 73) = 150; resolution(0, 74) = 0; "
                 + "resolution(0, 75) = 199; settle(0, 1) = -1; go() = 0; ofCommit(4, 2) = 8; ofCommit(4, 11) = 9; "
                 + "ofCommit(4, 12) = 8; ofCommit(4, 14) = 50; ofCommit(4, 15) = 2; ofCommit(4, 16) = 99; "
                 + "ofCommit(4, 17) = 3");
-        Script.run("22 settle, by nothing", TWO_SIDES + "blank(1, 0, 0); replay(1, 2) = 1; settle(0, 1) = 1; "
+        Script.run("22 settle, by nothing", Rows.TWO_SIDES + "blank(1, 0, 0); replay(1, 2) = 1; settle(0, 1) = 1; "
                 + "resolution(0, 1) = 0; resolution(0, 70) = -9; go() = 0; ofCommit(4, 2) = 2");
-        Script.run("22 settle, wrong", TWO_SIDES + "replay(1, 2) = 1; settle(0, 5) = -1; settle(0, -1) = -1; "
+        Script.run("22 settle, wrong", Rows.TWO_SIDES + "replay(1, 2) = 1; settle(0, 5) = -1; settle(0, -1) = -1; "
                 + "settle(1, 0) = -1; settle(-1, 0) = -1; settle(1, 4) = -1; fault() = 0; settle(0, 4) = -11; "
                 + "fault() = 1; hold(4, 0); settle(0, 4) = -12; fault() = 2; blank(4, 1, 1); settle(0, 4) = -12; "
                 + "blank(4, 0, 7); settle(0, 4) = -2; fault() = 0; slot 4 := 100; settle(0, 4) = -2; slot 4 := -1; "
@@ -505,13 +487,14 @@ public final class PromisesTest {
     }
 
     private static void foretell() {
-        Script.run("23 foretell", TWO_SIDES + "slot 0 := 1, 2, 3, 4; point(2, 1); commit(2, 0, 0) = 4; "
+        Script.run("23 foretell", Rows.TWO_SIDES + "slot 0 := 1, 2, 3, 4; point(2, 1); commit(2, 0, 0) = 4; "
                 + "slot 0 := 1, 6, 3, 4; commit(2, 0, 0) = 5; foretell(2, 2, 0) = 1; foretell(2, 2, 1) = 1; "
                 + "foretell(2, 2, 2) = 0; foretell(2, 2, 3) = 5; foretell(2, 2, 4) = 1; foretell(2, 2, 5) = 4; "
                 + "foretell(2, 2, 10) = 1; foretell(2, 2, 11) = 8; foretell(2, 2, 13) = 4; foretell(2, 2, 14) = -9; "
-                + "foretell(2, 2, 25) = -9; trace() = " + trail(1, 2, 7, 1, 2, 7, 1, 2, 7, 1, 2, 7, 1, 2, 7, 1, 2, 7)
+                + "foretell(2, 2, 25) = -9; trace() = "
+                + Rows.trace(1, 2, 7, 1, 2, 7, 1, 2, 7, 1, 2, 7, 1, 2, 7, 1, 2, 7)
                 + "; many(0) = 6; tip(2) = 5; status(0) = 0; status(2) = 0; ofCommit(2, 2) = 3");
-        Script.run("23 foretell, over", TWO_SIDES + "slot 0 := 1, 2, 3, 4; point(2, 1); commit(2, 0, 0) = 4; "
+        Script.run("23 foretell, over", Rows.TWO_SIDES + "slot 0 := 1, 2, 3, 4; point(2, 1); commit(2, 0, 0) = 4; "
                 + "foretell(2, 2, 0) = 0; foretell(2, 2, 1) = 1; foretell(2, 2, 3) = -9; foretell(2, 2, 4) = 0; "
                 + "foretell(2, 2, 5) = 4; foretell(2, 2, 13) = 4; foretell(0, 2, 1) = 0; foretell(0, 2, 5) = 3; "
                 + "foretell(3, 2, 5) = 3; foretell(2, 4, 11) = 2; many(0) = 5");
@@ -524,7 +507,7 @@ public final class PromisesTest {
         Script.run("23 foretell, keeps the latest figures", "slot 0 := 1; commit(0, 0, 0) = 1; point(1, 0); "
                 + "commit(1, 0, 0) = 2; replay(1, 1) = 0; status(3) = 1; foretell(0, 0, 1) = 1; status(2) = 0; "
                 + "status(3) = 1");
-        Script.run("23 foretell, wrong", TWO_SIDES + "foretell(4, 0, 0) = -1; foretell(-1, 0, 0) = -1; "
+        Script.run("23 foretell, wrong", Rows.TWO_SIDES + "foretell(4, 0, 0) = -1; foretell(-1, 0, 0) = -1; "
                 + "foretell(0, 4, 0) = -1; foretell(0, -1, 9) = -1; foretell(0, 0, 6) = -2; foretell(0, 0, 9) = -2; "
                 + "foretell(0, 0, 26) = -2; foretell(0, 0, -1) = -2; foretell(0, 0, " + MIN + ") = -2; "
                 + "replay(1, 2) = 1; foretell(0, 0, 0) = -3; foretell(0, 0, 6) = -2; foretell(4, 0, 6) = -1; "
@@ -563,7 +546,7 @@ public final class PromisesTest {
                 + "held(-1) = -1; held(2) = -11; fault() = 1; blank(2, 0, 1) = 1; held(2) = -12; fault() = 2; "
                 + "blank(2, 1, 1) = 1; held(2) = -12; held(1) = 1; fault() = 0; anew() = 2; held(1) = -9; fault() = 0");
         // A commit that has melted shows its new row; the object is the same.
-        Script.run("27 hold, in a replay", TWO_SIDES + "slot 1 := 1, 2, 3, 6; point(2, 1); commit(2, 0, 1) = 4; "
+        Script.run("27 hold, in a replay", Rows.TWO_SIDES + "slot 1 := 1, 2, 3, 6; point(2, 1); commit(2, 0, 1) = 4; "
                 + "slot 1 := 1, 7, 3, 6; commit(2, 0, 1) = 5; replay(2, 2) = 1; hold(1, 6) = 1; skip() = 0; "
                 + "held(1) = 6; tip(2) = 6");
     }
@@ -627,18 +610,18 @@ public final class PromisesTest {
     }
 
     private static void tellAndTrace() {
-        Script.run("34 tell, 35 trace", "trace() = " + trail(1, 2, 7) + "; tell(0) = 0; trace() = "
-                + trail(1, 2, 7, 11) + "; tell(1) = -1; tell(-1) = -1; trace() = " + trail(1, 2, 7, 11)
-                + "; slot 0 := 7, 8; commit(0, 0, 0) = 1; trace() = " + trail(1, 2, 7, 11, 1, 2, 7)
-                + "; commit(0, 1, 0) = 2; trace() = " + trail(1, 2, 7, 11, 1, 2, 7, 1, 2, 7, 3, 4)
+        Script.run("34 tell, 35 trace", "trace() = " + Rows.trace(1, 2, 7) + "; tell(0) = 0; trace() = "
+                + Rows.trace(1, 2, 7, 11) + "; tell(1) = -1; tell(-1) = -1; trace() = " + Rows.trace(1, 2, 7, 11)
+                + "; slot 0 := 7, 8; commit(0, 0, 0) = 1; trace() = " + Rows.trace(1, 2, 7, 11, 1, 2, 7)
+                + "; commit(0, 1, 0) = 2; trace() = " + Rows.trace(1, 2, 7, 11, 1, 2, 7, 1, 2, 7, 3, 4)
                 + "; tell(1) = 2; tell(2) = 102; trace() = "
-                + trail(1, 2, 7, 11, 1, 2, 7, 1, 2, 7, 3, 4, 11, 12, 11)
+                + Rows.trace(1, 2, 7, 11, 1, 2, 7, 1, 2, 7, 3, 4, 11, 12, 11)
                 + "; commit(0, 2, 0) = 3; tell(3) = 202; trace() = "
-                + trail(1, 2, 7, 11, 1, 2, 7, 1, 2, 7, 3, 4, 11, 12, 11, 1, 2, 7, 3, 4, 5, 6, 13, 11));
+                + Rows.trace(1, 2, 7, 11, 1, 2, 7, 1, 2, 7, 3, 4, 11, 12, 11, 1, 2, 7, 3, 4, 5, 6, 13, 11));
         Script.run("35 trace, replays", "slot 0 := 1; commit(0, 0, 0) = 1; slot 0 := 1, 2; commit(1, 0, 0) = 2; "
                 + "point(2, 0); slot 0 := 1, 2; commit(2, 1, 0); slot 0 := 1, 2, 3; commit(2, 0, 0); point(3, 0); "
                 + "commit(3, 2, 0) = 5; replay(2, 0) = 0; replay(3, 0) = 0; trace() = "
-                + trail(1, 2, 7, 1, 2, 7, 1, 2, 7, 1, 2, 7, 3, 4, 1, 2, 7, 1, 2, 7, 3, 4, 5, 6,
+                + Rows.trace(1, 2, 7, 1, 2, 7, 1, 2, 7, 1, 2, 7, 3, 4, 1, 2, 7, 1, 2, 7, 3, 4, 5, 6,
                         1, 2, 3, 4, 1, 2, 1, 2, 3, 4, 5, 6)
                 + "; ofCommit(8, 0) = 2; tell(8) = 203");
     }
@@ -662,7 +645,7 @@ public final class PromisesTest {
                 + "point(2, 1); many(0) = 4; many(2) = 4; point(1, 0) = 3; many(0) = 4; many(2) = 3; point(0, 0); "
                 + "many(2) = 2; point(2, 0); many(2) = 1; many(3) = 1; hold(4, 0); blank(2, 1, 0); many(3) = 3; "
                 + "lose(0); many(3) = 2; many(1) = 0; many(4) = -2; many(-1) = -2");
-        Script.run("37 many, resolutions", TWO_SIDES + "replay(1, 2) = 1; blank(1, 0, 0); settle(0, 1) = 1; "
+        Script.run("37 many, resolutions", Rows.TWO_SIDES + "replay(1, 2) = 1; blank(1, 0, 0); settle(0, 1) = 1; "
                 + "many(1) = 1; many(2) = 4; skip() = 0; many(2) = 3; many(1) = 1");
     }
 }

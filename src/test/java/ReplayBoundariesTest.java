@@ -224,7 +224,8 @@ public final class ReplayBoundariesTest {
         Script.run("17: Returns as for replay(), 2", SEVENTEEN + "replay(1, 2) = 2; go() = 2; status(1) = 3");
         Script.run("17: Returns as for replay(), 0", Rows.STOPPED + "slot 1 := 4; settle(0, 1) = 1; go() = 0; "
                 + "status(0) = 0; tip(1) = 4; many(0) = 5; ofCommit(4, 11) = 4");
-        Script.run("17: with the commit at which it stopped, not with those before", Rows.ONE_MADE + "replay(1, 2) = 1; "
+        Script.run("17: with the commit at which it stopped, not with those before", Rows.ONE_MADE
+                + "replay(1, 2) = 1; "
                 + "status(2) = 1; status(8) = 5; slot 1 := 4; settle(0, 1) = 1; go() = 0; status(2) = 2; tip(1) = 6; "
                 + "ofCommit(6, 1) = 5; ofCommit(6, 5) = 4; many(0) = 7");
         Script.run("17: it stops again at a later one", Rows.TWO_SIDES + "slot 0 := 1, 9, 7, 3; "
@@ -426,7 +427,8 @@ public final class ReplayBoundariesTest {
         Script.run("22: OUTSIDE if the array has more than 6 elements", Rows.STOPPED + "blank(1, 0, 7); "
                 + "settle(0, 1) = -2; fault() = 0; blank(1, 0, 24); settle(0, 1) = -2; many(1) = 0; blank(1, 0, 6); "
                 + "settle(0, 1) = 1");
-        Script.run("22: OUTSIDE if the array has one that is not 0 to 99", Rows.STOPPED + "slot 1 := 100, 0, 0, 0, 0, 0; "
+        Script.run("22: OUTSIDE if the array has one that is not 0 to 99", Rows.STOPPED
+                + "slot 1 := 100, 0, 0, 0, 0, 0; "
                 + "settle(0, 1) = -2; fault() = 0; slot 1 := 0, 0, 0, 0, 0, -1; settle(0, 1) = -2; "
                 + "slot 1 := 0, 0, 0, 0, 0, 100; settle(0, 1) = -2; many(1) = 0; slot 1 := 99; settle(0, 1) = 1");
         String full = Rows.eightResolutions() + "slot 0 := 9, 9, 9, 9, 9, 9, 9, 9, 9; point(1, 0); "
@@ -442,7 +444,8 @@ public final class ReplayBoundariesTest {
         Script.run("23: 0: its result, 0", "foretell(0, 0, 0) = 0; " + SIXTEEN + "foretell(1, 2, 0) = 0");
         Script.run("23: 0: its result, 1", Rows.TWO_SIDES + "foretell(1, 2, 0) = 1");
         Script.run("23: 0: its result, 2", SEVENTEEN + "foretell(1, 2, 0) = 2");
-        Script.run("23: 1: how many commits it would make", Rows.ONE_MADE + "foretell(1, 2, 1) = 1; foretell(1, 0, 1) = 3; "
+        Script.run("23: 1: how many commits it would make", Rows.ONE_MADE + "foretell(1, 2, 1) = 1; "
+                + "foretell(1, 0, 1) = 3; "
                 + "foretell(1, 4, 1) = 0");
         Script.run("23: 2: how many it would leave out", "slot 0 := 1; commit(0, 0, 0) = 1; commit(0, 0, 0) = 2; "
                 + "commit(1, 0, 0) = 3; foretell(0, 3, 2) = 2; foretell(0, 3, 1) = 0; foretell(0, 0, 2) = 1; "
@@ -451,6 +454,9 @@ public final class ReplayBoundariesTest {
                 + "foretell(1, 2, 3) = 3; foretell(1, 1, 3) = -9");
         Script.run("23: 4: 0 if it would be over", "foretell(0, 0, 4) = 0; " + Rows.TWO_SIDES
                 + "foretell(1, 2, 4) = 1; foretell(1, 1, 4) = 0");
+        // Nothing is merged there, so that the conflict that was met before must not count.
+        Script.run("23: 4: 0 if it would be over, without a merge", Rows.TWO_SIDES + "merge(1, 2, 3, 1) = 1; "
+                + "foretell(2, 3, 4) = 0; merge(1, 2, 3, 1) = 1; foretell(1, 3, 4) = 0");
         Script.run("23: 4: 0 if it would be over, after a conflict with a resolution", Rows.STOPPED + "slot 1 := 4; "
                 + "settle(0, 1) = 1; skip() = 0; point(1, 3); foretell(1, 2, 0) = 0; foretell(1, 2, 4) = 0; "
                 + "foretell(1, 2, 11) = 4");
@@ -482,7 +488,8 @@ public final class ReplayBoundariesTest {
                 settle(0, 1) = 1; skip() = 0; point(1, 3); foretell(1, 2, 4) = 1
                 """);
         // What the document calls the end is read as where the replay would come to: it stops there.
-        Script.run("23: 5 and 10 + i where it would stop", Rows.ONE_MADE + "foretell(1, 2, 3) = 4; foretell(1, 2, 5) = 4; "
+        Script.run("23: 5 and 10 + i where it would stop", Rows.ONE_MADE + "foretell(1, 2, 3) = 4; "
+                + "foretell(1, 2, 5) = 4; "
                 + "foretell(1, 2, 13) = 4; foretell(1, 2, 11) = 8");
         Script.run("23: 1 and 2 where it would stop at the first one", Rows.TWO_SIDES + "foretell(1, 2, 1) = 0; "
                 + "foretell(1, 2, 2) = 0; foretell(1, 2, 5) = 3; foretell(1, 2, 11) = 8");
@@ -496,7 +503,8 @@ public final class ReplayBoundariesTest {
         Script.run("23: UNKNOWN if there is no such commit", "foretell(0, -1, 0) = -1; foretell(0, 1, 0) = -1; "
                 + "foretell(0, MIN, 0) = -1; foretell(0, MAX, 0) = -1");
         Script.run("23: OUTSIDE if what is none of these", "foretell(0, 0, -1) = -2; foretell(0, 0, 6) = -2; "
-                + "foretell(0, 0, 9) = -2; foretell(0, 0, 26) = -2; foretell(0, 0, MIN) = -2; foretell(0, 0, MAX) = -2");
+                + "foretell(0, 0, 9) = -2; foretell(0, 0, 26) = -2; foretell(0, 0, MIN) = -2; "
+                + "foretell(0, 0, MAX) = -2");
         Script.run("23: STATE if a replay is under way", Rows.STOPPED + "foretell(3, 0, 0) = -3; "
                 + "foretell(1, 2, 10) = -3; status(1) = 3; conflict(0, 30) = 8");
         Script.run("23: FULL as for replay(), 24", Rows.empties(0, 12) + "foretell(0, 1, 0) = 0; "

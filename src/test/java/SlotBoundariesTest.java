@@ -28,7 +28,8 @@ public final class SlotBoundariesTest {
     }
 
     private static void slots() {
-        Script.run("SLOTS: There are five slots, 0 to 4", "blank(0, 0, 1) = 1; blank(4, 0, 1) = 1; blank(5, 0, 1) = -1; "
+        Script.run("SLOTS: There are five slots, 0 to 4", "blank(0, 0, 1) = 1; blank(4, 0, 1) = 1; "
+                + "blank(5, 0, 1) = -1; "
                 + "blank(-1, 0, 1) = -1; many(3) = 2");
         Script.run("SLOTS: A slot holds nothing (at first)", "held(0) = -11; held(1) = -11; held(2) = -11; "
                 + "held(3) = -11; held(4) = -11; many(3) = 0");
@@ -84,7 +85,8 @@ public final class SlotBoundariesTest {
         Script.run("25: Returns the number of lines, 0 and 16", "show(1, 0) = 0; as(1, 0) = 1; number(1, 0) = LOST; "
                 + Rows.count(0, 84, 99) + "commit(0, 0, 0) = 1; show(1, 1) = 16; number(1, 0) = 84; "
                 + "number(1, 15) = 99; number(1, 16) = LOST");
-        Script.run("25: a new byte array, not the row of the commit", "slot 0 := 7; commit(0, 0, 0) = 1; show(1, 1) = 1; "
+        Script.run("25: a new byte array, not the row of the commit", "slot 0 := 7; commit(0, 0, 0) = 1; "
+                + "show(1, 1) = 1; "
                 + "show(2, 1) = 1; write(1, 0, 9) = 1; ofCommit(1, 10) = 7; number(2, 0) = 7; as(1, 0) = 1; "
                 + "write(2, 0, 200) = 1; number(2, 0) = -56");
         Script.run("25: UNKNOWN if there is no such slot", "show(-1, 0) = -1; show(5, 0) = -1; show(MIN, 0) = -1; "
@@ -161,7 +163,8 @@ public final class SlotBoundariesTest {
         Script.run("30: 1 for a commit that is gone", "hold(0, 0); anew(); lose(0) = 1; lose(0) = 0");
         Script.run("30: it holds nothing then", "slot 0 := 7; lose(0) = 1; as(0, 0) = -11; held(0) = -11; "
                 + "number(0, 0) = LOST; fault() = 1; write(0, 0, 1) = -11; commit(0, 0, 0) = -11");
-        Script.run("30: UNKNOWN if there is no such slot", "lose(-1) = -1; lose(5) = -1; lose(MIN) = -1; lose(MAX) = -1");
+        Script.run("30: UNKNOWN if there is no such slot", "lose(-1) = -1; lose(5) = -1; lose(MIN) = -1; "
+                + "lose(MAX) = -1");
     }
 
     private static void write() {
@@ -192,7 +195,8 @@ public final class SlotBoundariesTest {
         Script.run("32: i is out of bounds (fault 3)", "slot 0 := 7, 8; number(0, -1) = LOST; fault() = 3; "
                 + "number(0, 2) = LOST; fault() = 3; number(0, MIN) = LOST; fault() = 3; number(0, MAX) = LOST; "
                 + "fault() = 3; number(0, 1) = 8; fault() = 0; blank(0, 1, 0); number(0, 0) = LOST; fault() = 3");
-        Script.run("32: the least int is not LOST", "blank(0, 1, 1); write(0, 0, MIN); number(0, 0) = MIN; fault() = 0");
+        Script.run("32: the least int is not LOST", "blank(0, 1, 1); write(0, 0, MIN); number(0, 0) = MIN; "
+                + "fault() = 0");
     }
 
     private static void copy() {
@@ -284,7 +288,8 @@ public final class SlotBoundariesTest {
                 + "anew(); held(1) = -9; fault() = 0");
         Script.run("36: of as()", "as(0, 0) = -11; fault() = 1; hold(0, 0); as(0, 0) = -12; fault() = 2; as(0, 2) = 1; "
                 + "fault() = 0; as(0, 0) = -12; as(0, 5) = -2; fault() = 0");
-        Script.run("36: of write()", "write(0, 0, 0) = -11; fault() = 1; hold(0, 0); write(0, 0, 0) = -12; fault() = 2; "
+        Script.run("36: of write()", "write(0, 0, 0) = -11; fault() = 1; hold(0, 0); write(0, 0, 0) = -12; "
+                + "fault() = 2; "
                 + "blank(1, 0, 1); write(1, 1, 0) = -13; fault() = 3; write(1, 0, 0) = 1; fault() = 0; "
                 + "write(1, 1, 0) = -13; write(5, 0, 0) = -1; fault() = 0");
         Script.run("36: of number()", "number(0, 0) = LOST; fault() = 1; hold(0, 0); number(0, 0) = LOST; fault() = 2; "
@@ -327,6 +332,7 @@ public final class SlotBoundariesTest {
                 + "replay(1, 2) = 1; many(0) = 6; many(2) = 5; skip() = 0; many(2) = 4");
         Script.run("37: 3: slots that hold something, 0 and 5", "many(3) = 0; blank(0, 0, 0); blank(1, 1, 0); "
                 + "hold(2, 0); show(3, 0); trail(4, 0); many(3) = 5; lose(0); lose(4); many(3) = 3");
-        Script.run("37: OUTSIDE if what is out of range", "many(-1) = -2; many(4) = -2; many(MIN) = -2; many(MAX) = -2");
+        Script.run("37: OUTSIDE if what is out of range", "many(-1) = -2; many(4) = -2; many(MIN) = -2; "
+                + "many(MAX) = -2");
     }
 }
