@@ -759,20 +759,15 @@ public final class CarriedCommits {
         } else if (c.kind() == FIX && r.top != r.onto) {
             r.top.row = merger.copyResult();
             r.figures[MELTED]++;
+        } else if (r.draft == null) {
+            r.top = makeCommit(c.kind(), r.top, merger.copyResult(), c);
+            r.figures[MADE]++;
         } else {
-            r.top = makeTop(r, c);
+            r.draft.row = merger.copyResult();
+            r.top = r.draft;
             r.figures[MADE]++;
         }
         return 0;
-    }
-
-    private Plain makeTop(Replay r, Plain c) {
-        int[] row = merger.copyResult();
-        if (r.draft == null) {
-            return makeCommit(c.kind(), r.top, row, c);
-        }
-        r.draft.row = row;
-        return r.draft;
     }
 
     private int stopOrFinish(int outcome) {

@@ -1,11 +1,14 @@
 import java.lang.management.ManagementFactory;
 
 /**
- * All calls of a run live in one room of 7.3 million fields and elements, so 512 calls of the
- * dearest kinds must stay far below it. Bytes are counted, which are at least as many as fields.
+ * All calls of a run live in one room of 7.3 million fields and elements, so the 512 calls of an
+ * object, of the dearest kinds, must stay far below it. Bytes are counted, which are at least as
+ * many as fields.
  */
 public final class RoomTest {
     private static final long MOST_BYTES = 7_300_000L;
+    /** What is left of the 512 calls of an object behind those of prepared(). */
+    private static final int CALLS = 400;
 
     private RoomTest() {
     }
@@ -16,22 +19,24 @@ public final class RoomTest {
                 new CarriedCommits().many(0);
             }
         });
-        CarriedCommits x = prepared();
         spend("foretell", () -> {
-            for (int i = 0; i < 512; i++) {
+            CarriedCommits x = prepared();
+            for (int i = 0; i < CALLS; i++) {
                 Script.due("foretell", "its result", x.foretell(0, 2, 0), 1);
             }
         });
         spend("replay and abort", () -> {
-            for (int i = 0; i < 256; i++) {
+            CarriedCommits x = prepared();
+            for (int i = 0; i < CALLS / 2; i++) {
                 Script.due("replay", "its result", x.replay(0, 2), 1);
                 Script.due("abort", "its result", x.abort(), 9);
             }
         });
         spend("settle and forget", () -> {
+            CarriedCommits x = prepared();
             x.replay(0, 2);
             x.show(1, 1);
-            for (int i = 0; i < 256; i++) {
+            for (int i = 0; i < CALLS / 2; i++) {
                 Script.due("settle", "its result", x.settle(0, 1), 1);
                 Script.due("forget", "its result", x.forget(0), 0);
             }
