@@ -146,6 +146,15 @@ public final class CommitBoundariesTest {
                 + "piece(4, 0, 30) = 3; piece(4, 0, 0) = 1; ofCommit(2, 3) = 0; ofCommit(3, 3) = 1; "
                 + "piece(3, 0, 1) = 2; merge(2, 2, 2, 2) = 16; merge(3, 4, 3, 2) = 2; merge(3, 4, 3, 11) = 3; "
                 + "merge(3, 4, 3, 0) = 0");
+        // Counts that were left of the long rows behind the short ones' ends would hide or move their pairs.
+        Script.run("COMMITS: a longest common subsequence, nothing of rows of 16 lines stays", Rows.count(0, 1, 16) + """
+                commit(0, 0, 0) = 1; commit(0, 0, 0) = 2; slot 0 := 1; commit(1, 0, 0) = 3; slot 0 := 9, 8, 1
+                commit(1, 0, 0) = 4; slot 0 := 1; commit(1, 0, 0) = 5; slot 0 := 7, 7; commit(1, 0, 0) = 6
+                slot 0 := 1, 7; commit(1, 0, 0) = 7
+                ofCommit(2, 3) = 0; piece(4, 0, 0) = 0; ofCommit(2, 3) = 0; piece(4, 0, 1) = 2
+                ofCommit(2, 3) = 0; piece(5, 0, 0) = 2; ofCommit(2, 3) = 0; piece(5, 0, 1) = 0
+                ofCommit(2, 3) = 0; ofCommit(7, 3) = 2
+                """);
         // (1, 0), (2, 1) is longer than (0, 2), though the latter begins with the smaller i.
         Script.run("COMMITS: with as many pairs as possible", """
                 slot 0 := 3, 1, 2; commit(0, 0, 0) = 1; slot 0 := 1, 2, 3; commit(0, 0, 0) = 2; ofCommit(2, 3) = 2

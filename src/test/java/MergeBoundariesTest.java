@@ -150,6 +150,11 @@ public final class MergeBoundariesTest {
                 + "settle(0, 1) = 1; status(7) = 1; conflict(0, 2) = 2; settle(0, 1) = 2; status(7) = 0; "
                 + "skip() = 0; slot 0 := 21, 2, 22, 23; point(1, 1); commit(1, 0, 0) = 4; replay(1, 2) = 1; "
                 + "status(7) = 1; conflict(0, 3) = 7");
+        // Shapes 2, 0, 1, 1, 0, 1, 2 and 3, 0, 1, 1, 0, 1, 2 differ in the number of lines of base alone.
+        Script.run("MERGING: with its shape: the first number, too", three("1, 2", "1", "3") + "replay(1, 2) = 1; "
+                + "conflict(0, 3) = 7; conflict(0, 70) = 2; slot 1 := 5; settle(0, 1) = 1; merge(1, 2, 3, 1) = 0; "
+                + "skip() = 0; slot 0 := 1, 2, 2; commit(2, 0, 0) = 4; merge(4, 0, 3, 0) = 1; merge(4, 0, 3, 1) = 1; "
+                + "commit(2, 0, 0) = 5; forget(0) = 0; merge(1, 2, 3, 1) = 1");
     }
 
     private static void settling() {
