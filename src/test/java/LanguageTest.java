@@ -1,4 +1,5 @@
 import java.io.IOException;
+import java.lang.reflect.Constructor;
 import java.lang.reflect.Field;
 import java.lang.reflect.Method;
 import java.lang.reflect.Modifier;
@@ -23,6 +24,10 @@ public final class LanguageTest {
         "int lose(int)", "int write(int,int,int)", "long number(int,int)", "int copy(int,int,int,int,int)",
         "int tell(int)", "int trace()", "int fault()", "int many(int)",
     };
+
+    /** Rule 5. */
+    private static final Set<Class<?>> CONSTANTS = Set.of(int.class, long.class, boolean.class, char.class,
+            String.class, int[].class, long[].class, char[].class, byte[].class);
 
     private LanguageTest() {
     }
@@ -102,10 +107,16 @@ public final class LanguageTest {
 
     private static void oneClass(Class<?> type) {
         Script.holds(type + " is static", type == CarriedCommits.class || Modifier.isStatic(type.getModifiers()));
+        Script.holds(type + " is not open to others", type == CarriedCommits.class
+                || !Modifier.isPublic(type.getModifiers()) && !Modifier.isProtected(type.getModifiers()));
+        Script.holds(type + " has no class inside", type == CarriedCommits.class
+                || type.getDeclaredClasses().length == 0);
+        types(type);
         int fields = 0;
         for (Field field : type.getDeclaredFields()) {
             if (Modifier.isStatic(field.getModifiers())) {
                 Script.holds(field + " is final", Modifier.isFinal(field.getModifiers()));
+                Script.holds(field + " is a constant", CONSTANTS.contains(field.getType()));
             } else {
                 fields++;
             }
@@ -114,6 +125,30 @@ public final class LanguageTest {
         for (Method method : type.getDeclaredMethods()) {
             Script.holds(method + " has at most seven parameters", method.getParameterCount() <= 7);
         }
+    }
+
+    private static void types(Class<?> type) {
+        for (Field field : type.getDeclaredFields()) {
+            Script.holds(field + " is of an allowed type", isAllowed(field.getType()));
+        }
+        for (Method method : type.getDeclaredMethods()) {
+            Script.holds(method + " answers an allowed type", isAllowed(method.getReturnType()));
+            for (Class<?> parameter : method.getParameterTypes()) {
+                Script.holds(method + " takes allowed types", isAllowed(parameter));
+            }
+        }
+        for (Constructor<?> constructor : type.getDeclaredConstructors()) {
+            Script.holds(constructor + " has at most seven parameters", constructor.getParameterCount() <= 7);
+            for (Class<?> parameter : constructor.getParameterTypes()) {
+                Script.holds(constructor + " takes allowed types", isAllowed(parameter));
+            }
+        }
+    }
+
+    /** What the class uses of rule 3: numbers, its own classes, and arrays of one dimension of these. */
+    private static boolean isAllowed(Class<?> type) {
+        Class<?> element = type.isArray() ? type.getComponentType() : type;
+        return element.isPrimitive() || element.getEnclosingClass() == CarriedCommits.class;
     }
 
     /** Methods begin and end with the indentation of their class's members. */
